@@ -1,0 +1,74 @@
+/** Promises 45 to 47. */
+public final class SumsTest {
+    private static final Check CHECK = new Check("SumsTest");
+
+    public static void main(String[] args) {
+        checksum();
+        aboveShare();
+        isSound();
+        CHECK.end();
+    }
+
+    private static long sum(long... parts) {
+        long sum = 7;
+        for (long part : parts) {
+            sum = sum * 31 + part;
+        }
+        return sum;
+    }
+
+    private static void checksum() {
+        IsochroneBench bench = new IsochroneBench();
+        CHECK.due("45: at first", bench.checksum(), sum(0, 1));
+        bench.addGlass(20, 3, 5, 0);
+        CHECK.due("45: a glass", bench.checksum(), sum(0, 20, 0, 0, 1));
+        bench.addGlass(10, 1, 1, 0);
+        bench.turn(0);
+        bench.gateAt(0, 3);
+        bench.gateBehind(0, 2);
+        bench.pass(2);
+        CHECK.due("45: glasses, then gates, then the second", bench.checksum(),
+                sum(10, 10, 1, 0, 10, 0, 3, 1, 1, 1, 2, 1));
+        bench.seed(2147483646);
+        CHECK.due("45: and z", bench.checksum(), sum(10, 10, 1, 0, 10, 0, 3, 1, 1, 1, 2, 2147483646));
+        for (int i = 0; i < 6; i++) {
+            bench.addGlass(9999, 1, 1, 0);
+        }
+        CHECK.due("45: it wraps around", bench.checksum(), sum(10, 10, 1, 0, 10, 0, 0, 9999, 0, 0, 9999, 0, 0, 9999,
+                0, 0, 9999, 0, 0, 9999, 0, 0, 9999, 0, 3, 1, 1, 1, 2, 2147483646));
+    }
+
+    private static void aboveShare() {
+        IsochroneBench bench = new IsochroneBench();
+        CHECK.refused("46: without glasses", IsochroneBench::new, b -> b.aboveShare(),
+                java.util.NoSuchElementException.class);
+        bench.addGlass(20, 3, 5, 0);
+        CHECK.due("46: none above", bench.aboveShare(), 0f);
+        bench.turn(0);
+        CHECK.due("46: all above", bench.aboveShare(), 1f);
+        bench.addGlass(10, 1, 1, 0);
+        CHECK.due("46: two thirds", bench.aboveShare(), 20f / 30f);
+        bench.pass(1);
+        CHECK.due("46: half", bench.aboveShare(), 0.5f);
+        bench.pour(1, 7);
+        CHECK.due("46: with what was poured", bench.aboveShare(), 22f / 37f);
+    }
+
+    private static void isSound() {
+        IsochroneBench bench = new IsochroneBench();
+        CHECK.due("47: a new bench", bench.isSound(), true);
+        bench.addGlass(20, 3, 5, 0);
+        bench.addGlass(10, 1, 1, 0);
+        bench.pour(1, 40);
+        bench.feed(0, 1);
+        bench.turn(0);
+        bench.gateAt(1, 3);
+        bench.pass(30);
+        CHECK.due("47: after all that", bench.isSound(), true);
+        bench.tell(12);
+        bench.tell(8);
+        CHECK.due("47: with a puzzle", bench.isSound(), true);
+        bench.forget();
+        CHECK.due("47: without one", bench.isSound(), true);
+    }
+}
