@@ -1,6 +1,7 @@
 import java.util.ArrayList;
 import java.util.NoSuchElementException;
 
+/** Glasses, gates, runs, puzzles and a ship, as ../shared/DOC.md promises them. */
 public final class IsochroneBench {
     private static final int MOST_GLASSES = 8;
     private static final int MOST_GRAINS_TOLD = 9999;
@@ -751,7 +752,6 @@ public final class IsochroneBench {
         }
 
         void clear() {
-            minutes.wipe();
             told = 0;
         }
 
@@ -827,7 +827,7 @@ public final class IsochroneBench {
             states = 0;
             reach(0, 0);
             for (int minute = 0; minute <= LAST_MINUTE; minute++) {
-                for (int state = 0; state < states; state++) {
+                for (int state = 0; state < states && state < MOST_STATES; state++) {
                     if (earliest.get(state) == minute) {
                         leave(state, minute);
                     }
@@ -883,6 +883,7 @@ public final class IsochroneBench {
             return state;
         }
 
+        // With no minute left no turn is needed any more, so the first part of the table stays 0.
         private void countTurns() {
             for (int left = 1; left <= LAST_MINUTE; left++) {
                 for (int state = 0; state < states; state++) {
@@ -913,12 +914,12 @@ public final class IsochroneBench {
         }
 
         private int turnsBy(int state, int choice, int left) {
-            int wait = nextAfter.get(state * CHOICES + choice);
+            int place = state * CHOICES + choice;
+            int wait = nextAfter.get(place);
             if (wait == 0 || wait > left) {
                 return NEVER;
             }
-            int later = wait == left ? 0 : fewestFrom(nextState.get(state * CHOICES + choice), left - wait);
-            return Math.min(NEVER, Integer.bitCount(choice) + later);
+            return Integer.bitCount(choice) + fewestFrom(nextState.get(place), left - wait);
         }
 
         private int fewestFrom(int state, int left) {

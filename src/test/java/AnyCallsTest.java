@@ -104,7 +104,7 @@ public final class AnyCallsTest {
         try {
             call.get();
         } catch (RuntimeException e) {
-            String name = e.getClass().getSimpleName();
+            String name = Check.nameOf(e);
             CHECK.due(name + " is not among the named ones", Set.of(allowed).contains(name), true);
             CHECK.due("checksum behind " + name, bench.checksum(), before);
         }

@@ -41,8 +41,15 @@ final class Check {
         try {
             return "answer " + call.apply(bench);
         } catch (RuntimeException e) {
-            return e.getClass().getSimpleName();
+            return nameOf(e);
         }
+    }
+
+    /** The exception's name, which is another one if the library threw it and not the class's own throw. */
+    static String nameOf(RuntimeException e) {
+        StackTraceElement[] trace = e.getStackTrace();
+        boolean own = trace.length > 0 && trace[0].getClassName().startsWith("IsochroneBench");
+        return own ? e.getClass().getSimpleName() : e.getClass().getSimpleName() + " of the library";
     }
 
     void end() {

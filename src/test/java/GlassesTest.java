@@ -109,6 +109,7 @@ public final class GlassesTest {
         bench.stand(1, 'l');
         CHECK.due("5: lies with grains above", bench.state(0), 'l');
         CHECK.due("5: lies without", bench.state(1), 'l');
+        CHECK.due("5: with a single grain above", poured(1, 1, 0, 1).state(0), 'r');
         IsochroneBench jammed = jammed();
         CHECK.due("5: jammed", jammed.state(0), 'j');
         jammed.stand(0, 'l');

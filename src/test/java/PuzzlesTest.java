@@ -110,6 +110,12 @@ public final class PuzzlesTest {
         CHECK.due("37: no multiple", even.canStretch(3), false);
         CHECK.due("37: a multiple", even.canStretch(4), true);
         CHECK.due("37: of one glass", told(12).canStretch(36) + " " + told(12).canStretch(37), "true false");
+        IsochroneBench anew = told(5, 7, 11);
+        anew.forget();
+        CHECK.due("37: forgotten", anew.canStretch(5), false);
+        anew.tell(12);
+        anew.tell(4);
+        CHECK.due("37: told anew", anew.canStretch(5) + " " + anew.canStretch(8), "false true");
         CHECK.due("37: without any", new IsochroneBench().canStretch(1), false);
     }
 

@@ -144,6 +144,13 @@ public final class RunsTest {
         bench.turn(1);
         bench.pass(10);
         CHECK.due("26: alike", bench.spread(1), 0);
+        IsochroneBench shorter = new IsochroneBench();
+        shorter.addGlass(20, 3, 2, 0);
+        shorter.turn(0);
+        shorter.pass(10);
+        shorter.turn(0);
+        shorter.pass(7);
+        CHECK.due("26: the first one the longest", runsOf(shorter, 0) + ": " + shorter.spread(0), "10 7: 3");
     }
 
     private static void steadiest() {
@@ -172,6 +179,11 @@ public final class RunsTest {
         bench.stand(0, 'u');
         bench.pass(4);
         CHECK.due("28: 1400 by 13", bench.knots(0, 5), 107);
+        IsochroneBench quick = new IsochroneBench();
+        quick.addGlass(1, 1, 1, 0);
+        quick.turn(0);
+        quick.pass(1);
+        CHECK.due("28: a run of a second", quick.knots(0, 99), 27720);
     }
 
     private static void wrongOnes() {

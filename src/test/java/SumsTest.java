@@ -42,6 +42,10 @@ public final class SumsTest {
         IsochroneBench bench = new IsochroneBench();
         CHECK.refused("46: without glasses", IsochroneBench::new, b -> b.aboveShare(),
                 java.util.NoSuchElementException.class);
+        IsochroneBench least = new IsochroneBench();
+        least.addGlass(1, 1, 1, 0);
+        least.turn(0);
+        CHECK.due("46: a single grain", least.aboveShare(), 1f);
         bench.addGlass(20, 3, 5, 0);
         CHECK.due("46: none above", bench.aboveShare(), 0f);
         bench.turn(0);
