@@ -52,6 +52,7 @@ public final class IsochroneBench {
         glasses = new ArrayList<Glass>();
         gates = new ArrayList<Gate>();
         puzzle = new Puzzle();
+        puzzle.solve();
         ship = new Ship();
         z = 1;
     }
@@ -743,7 +744,6 @@ public final class IsochroneBench {
             fewest = new Row((LAST_MINUTE + 1) * MOST_STATES);
             planChoices = new Row(LAST_MINUTE);
             planMinutes = new Row(LAST_MINUTE);
-            solve();
         }
 
         void add(int length) {

@@ -28,7 +28,9 @@ final class Check {
         due(what + ", and what stands then", Probe.tellAll(tried), Probe.tellAll(maker.get()));
     }
 
-    void noGlass(String what, Supplier<IsochroneBench> maker, int count, Function<Integer, Consumer<IsochroneBench>> call) {
+    /** The call must be refused for a number below, and for some from the count on. */
+    void noGlass(String what, Supplier<IsochroneBench> maker, int count,
+            Function<Integer, Consumer<IsochroneBench>> call) {
         for (int glass : new int[] {-1, count, Integer.MIN_VALUE, Integer.MAX_VALUE}) {
             refused(what + " of " + glass, maker, b -> {
                 call.apply(glass).accept(b);

@@ -91,7 +91,8 @@ public final class FaceTest {
             if (!Modifier.isPrivate(m.getModifiers())) {
                 String shape = m.getReturnType().getSimpleName() + " " + m.getName() + "("
                         + names(m.getParameterTypes()) + ") " + names(m.getExceptionTypes());
-                found.add(m.getModifiers() == Modifier.PUBLIC ? shape : Modifier.toString(m.getModifiers()) + " " + shape);
+                boolean plain = m.getModifiers() == Modifier.PUBLIC;
+                found.add(plain ? shape : Modifier.toString(m.getModifiers()) + " " + shape);
             }
         }
         return found;

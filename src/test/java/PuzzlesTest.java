@@ -54,7 +54,8 @@ public final class PuzzlesTest {
         CHECK.due("30: three", bench.forget(), 3);
         CHECK.due("30: none are left", bench.forget(), 0);
         CHECK.due("31: nothing can be measured then", bench.measurable(40), 0);
-        CHECK.due("30: told anew", bench.tell(7) + " " + bench.canMeasure(4) + " " + bench.canMeasure(7), "1 false true");
+        CHECK.due("30: told anew", bench.tell(7), 1);
+        CHECK.due("31: measured anew", bench.canMeasure(4) + " " + bench.canMeasure(7), "false true");
         CHECK.due("33: the plan is new too", planOf(bench, 14), "2: 0/1 7/1");
     }
 
