@@ -2,10 +2,11 @@
 public final class SumsTest {
     private static final Check CHECK = new Check("SumsTest");
 
-    public static void main(String[] args) {
+    public static void main(String[] args) throws ReflectiveOperationException {
         checksum();
         aboveShare();
         isSound();
+        isNotSound();
         CHECK.end();
     }
 
@@ -74,5 +75,63 @@ public final class SumsTest {
         CHECK.due("47: with a puzzle", bench.isSound(), true);
         bench.forget();
         CHECK.due("47: without one", bench.isSound(), true);
+    }
+
+    /** No call makes a bench unsound, so the test reaches into one and spoils it. */
+    private static void isNotSound() throws ReflectiveOperationException {
+        CHECK.due("47: nothing spoiled", spoilable().isSound(), true);
+        CHECK.due("47: a grain more than told", spoiled("glasses", 1, "lower", 1).isSound(), false);
+        CHECK.due("47: a grain less than told", spoiled("glasses", 0, "lower", -1).isSound(), false);
+        for (int glass = 0; glass < 2; glass++) {
+            for (String[] pair : new String[][] {{"upper", "lower"}, {"lower", "upper"}}) {
+                IsochroneBench below0 = spoilable();
+                add(listed(below0, "glasses", glass), pair[0], -500);
+                add(listed(below0, "glasses", glass), pair[1], 500);
+                CHECK.due("47: " + pair[0] + " below 0 in " + glass, below0.isSound(), false);
+            }
+        }
+        for (int gate = 0; gate < 2; gate++) {
+            CHECK.due("47: less than full, gate " + gate, spoiled("gates", gate, "content", 2).isSound(), true);
+            CHECK.due("47: full, gate " + gate, spoiled("gates", gate, "content", 3).isSound(), false);
+            CHECK.due("47: more than full, gate " + gate, spoiled("gates", gate, "content", 4).isSound(), false);
+        }
+        IsochroneBench mistold = spoilable();
+        Object puzzle = value(mistold, "puzzle");
+        int[] minutes = (int[]) value(value(puzzle, "minutes"), "cells");
+        minutes[0] = 8;
+        CHECK.due("47: 12 is no multiple of 8", mistold.isSound(), false);
+    }
+
+    private static IsochroneBench spoilable() {
+        IsochroneBench bench = new IsochroneBench();
+        bench.addGlass(20, 3, 5, 0);
+        bench.addGlass(10, 1, 1, 0);
+        bench.gateAt(0, 3);
+        bench.gateAt(1, 3);
+        bench.tell(12);
+        return bench;
+    }
+
+    private static IsochroneBench spoiled(String list, int place, String field, int more)
+            throws ReflectiveOperationException {
+        IsochroneBench bench = spoilable();
+        add(listed(bench, list, place), field, more);
+        return bench;
+    }
+
+    private static Object listed(IsochroneBench bench, String list, int place) throws ReflectiveOperationException {
+        return ((java.util.List<?>) value(bench, list)).get(place);
+    }
+
+    private static Object value(Object owner, String field) throws ReflectiveOperationException {
+        java.lang.reflect.Field found = owner.getClass().getDeclaredField(field);
+        found.setAccessible(true);
+        return found.get(owner);
+    }
+
+    private static void add(Object owner, String field, int more) throws ReflectiveOperationException {
+        java.lang.reflect.Field found = owner.getClass().getDeclaredField(field);
+        found.setAccessible(true);
+        found.setInt(owner, found.getInt(owner) + more);
     }
 }
