@@ -58,7 +58,8 @@ final class PlainBench {
     private final List<Glass> glasses = new ArrayList<>();
     private final List<Gate> gates = new ArrayList<>();
     private final List<Integer> told = new ArrayList<>();
-    private PlanSearch search = new PlanSearch();
+    private PlanSearch searched;
+    private boolean[] stretches;
     private int second;
     private long z = 1;
     private int shipGlass = -1;
@@ -350,33 +351,37 @@ final class PlainBench {
         range(minutes, 1, 12);
         state(told.size() < 3);
         told.add(minutes);
-        seek();
+        searched = null;
         return told.size();
     }
 
     int forget() {
         int before = told.size();
         told.clear();
-        seek();
+        searched = null;
         return before;
     }
 
-    private void seek() {
-        int[] sizes = new int[told.size()];
-        for (int i = 0; i < sizes.length; i++) {
-            sizes[i] = told.get(i);
+    private PlanSearch search() {
+        if (searched == null) {
+            int[] sizes = new int[told.size()];
+            for (int i = 0; i < sizes.length; i++) {
+                sizes[i] = told.get(i);
+            }
+            searched = new PlanSearch(sizes);
+            stretches = null;
         }
-        search = new PlanSearch(sizes);
+        return searched;
     }
 
     boolean canMeasure(int minute) {
         range(minute, 1, 40);
-        return search.planFor(minute) != null;
+        return search().planFor(minute) != null;
     }
 
     private PlanSearch.Plan plan(int minute) {
         element(canMeasure(minute));
-        return search.planFor(minute);
+        return search().planFor(minute);
     }
 
     int fewestTurns(int minute) {
@@ -410,7 +415,10 @@ final class PlainBench {
 
     boolean canStretch(int minutes) {
         range(minutes, 1, 40);
-        return search.stretches()[minutes];
+        if (searched == null || stretches == null) {
+            stretches = search().stretches();
+        }
+        return stretches[minutes];
     }
 
     int divisor() {

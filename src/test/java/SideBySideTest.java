@@ -22,7 +22,7 @@ public final class SideBySideTest {
     }
 
     public static void main(String[] args) {
-        for (int seed = 0; seed < 600; seed++) {
+        for (int seed = 0; seed < 400; seed++) {
             new SideBySideTest(seed).goThrough();
         }
         CHECK.end();
@@ -34,8 +34,14 @@ public final class SideBySideTest {
         for (int i = 0; i < glasses && i < 7; i++) {
             addGlass();
         }
-        while (calls < CALLS - 2) {
-            switch (random.nextInt(puzzles ? 9 : 8)) {
+        if (random.nextInt(8) == 0) {
+            nearlyFill();
+        }
+        if (random.nextInt(8) == 0) {
+            nearTheLastSecond();
+        }
+        while (calls < CALLS - 3) {
+            switch (random.nextInt(puzzles ? 16 : 8)) {
                 case 0, 1, 2 -> change(random.nextInt(10));
                 case 3 -> pass(longOnes ? 600 : 9);
                 case 4, 5 -> look(random.nextInt(12));
@@ -46,6 +52,20 @@ public final class SideBySideTest {
         }
         both("checksum", bench::checksum, plain::checksum);
         both("isSound", bench::isSound, () -> true);
+    }
+
+    private void nearlyFill() {
+        int filled = random.nextInt(glasses);
+        both("stand", () -> bench.stand(filled, 'l'), () -> plain.stand(filled, 'l'));
+        for (int i = 0; i < 19; i++) {
+            both("pour", () -> bench.pour(filled, 999), () -> plain.pour(filled, 999));
+        }
+    }
+
+    private void nearTheLastSecond() {
+        for (int i = 0; i < 33; i++) {
+            both("pass", () -> bench.pass(600), () -> plain.pass(600));
+        }
     }
 
     private int odd(int least, int most) {

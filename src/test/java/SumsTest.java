@@ -96,10 +96,19 @@ public final class SumsTest {
             CHECK.due("47: more than full, gate " + gate, spoiled("gates", gate, "content", 4).isSound(), false);
         }
         IsochroneBench mistold = spoilable();
-        Object puzzle = value(mistold, "puzzle");
-        int[] minutes = (int[]) value(value(puzzle, "minutes"), "cells");
-        minutes[0] = 8;
+        puzzleRow(mistold, "minutes")[0] = 8;
         CHECK.due("47: 12 is no multiple of 8", mistold.isSound(), false);
+        for (int minute = 1; minute <= 40; minute++) {
+            IsochroneBench measured = spoilable();
+            int[] fewest = puzzleRow(measured, "fewest");
+            fewest[minute * (fewest.length / 41)] = 1;
+            CHECK.due("47: measured as if by one turn, " + minute, measured.canMeasure(minute), true);
+            CHECK.due("47: a multiple of 12, " + minute, measured.isSound(), minute % 12 == 0);
+        }
+    }
+
+    private static int[] puzzleRow(IsochroneBench bench, String row) throws ReflectiveOperationException {
+        return (int[]) value(value(value(bench, "puzzle"), row), "cells");
     }
 
     private static IsochroneBench spoilable() {
