@@ -2,15 +2,13 @@ import java.lang.reflect.Constructor;
 import java.lang.reflect.Field;
 import java.lang.reflect.Method;
 import java.lang.reflect.Modifier;
-import java.nio.file.Files;
-import java.nio.file.Path;
 import java.util.ArrayList;
 import java.util.Arrays;
 import java.util.List;
 import java.util.TreeSet;
 import java.util.stream.Collectors;
 
-/** The face of the class is the document's, no more and no less; the text keeps to some of LANGUAGE.md. */
+/** The face of the class is the document's, no more and no less. */
 public final class FaceTest {
     private static final String[] FACE = {
         "int addGlass(int,int,int,int) IllegalArgumentException,IllegalStateException",
@@ -60,13 +58,8 @@ public final class FaceTest {
         "float aboveShare() NoSuchElementException",
         "boolean isSound() ",
     };
-    // Words that LANGUAGE.md leaves no place for in the program.
-    private static final String[] BANNED = {
-        "->", "::", "Exact(", "synchronized", "assert ", "finally", "catch", "java.util.concurrent", "System.",
-        "Thread", "Random", "implements", "hashCode", "toString", "static {",
-    };
 
-    public static void main(String[] args) throws Exception {
+    public static void main(String[] args) {
         Check check = new Check("FaceTest");
         Class<?> bench = IsochroneBench.class;
         check.due("the class's modifiers", bench.getModifiers(), Modifier.PUBLIC | Modifier.FINAL);
@@ -78,10 +71,6 @@ public final class FaceTest {
         check.due("open fields, or static ones that can change", loose(bench), List.of());
         check.due("private methods that bear a public name", doubledNames(bench), List.of());
         check.due("open or inner classes", openClasses(bench), List.of());
-        String text = Files.readString(Path.of(args.length > 0 ? args[0] : "src/main/java/IsochroneBench.java"));
-        for (String word : BANNED) {
-            check.due("lines with " + word, linesWith(text, word), List.of());
-        }
         check.end();
     }
 
@@ -142,16 +131,6 @@ public final class FaceTest {
             int m = inside.getModifiers();
             if (Modifier.isPublic(m) || Modifier.isProtected(m) || !Modifier.isStatic(m)) {
                 found.add(inside.getSimpleName());
-            }
-        }
-        return found;
-    }
-
-    private static List<String> linesWith(String text, String word) {
-        List<String> found = new ArrayList<>();
-        for (String line : text.split("\n")) {
-            if (line.contains(word)) {
-                found.add(line.trim());
             }
         }
         return found;

@@ -8,6 +8,7 @@ public final class PuzzlesTest {
     public static void main(String[] args) {
         tell();
         forget();
+        leavesNothing();
         byHand();
         oneGlass();
         theOrderTold();
@@ -59,13 +60,36 @@ public final class PuzzlesTest {
         CHECK.due("33: the plan is new too", planOf(bench, 14), "2: 0/1 7/1");
     }
 
+    /** Pairs in which the later puzzle would answer otherwise if the forgotten one left a next decision behind. */
+    private static void leavesNothing() {
+        int[][] before = {{1, 10, 1}, {9, 5, 9}, {8, 3, 8}, {4, 5, 6}, {6, 11, 3}, {11, 12, 7}};
+        int[][] then = {{11, 12}, {12, 11}, {10, 12}, {12, 10}, {9, 11}, {11, 9}};
+        for (int[] first : before) {
+            for (int[] second : then) {
+                PlanSearch search = new PlanSearch(second);
+                boolean[] stretches = search.stretches();
+                for (int minute = 1; minute <= 40; minute++) {
+                    IsochroneBench bench = told(first);
+                    bench.forget();
+                    bench.tell(second[0]);
+                    bench.tell(second[1]);
+                    String what = minute + " of " + search + ", another one forgotten";
+                    boolean fine = search.planFor(minute) != null;
+                    CHECK.due("31: canMeasure " + what, bench.canMeasure(minute), fine);
+                    CHECK.due("32 to 35: " + what, fine ? planOf(bench, minute) : "none", planBySearch(minute, second));
+                    CHECK.due("37: canStretch " + what, bench.canStretch(minute), stretches[minute]);
+                }
+            }
+        }
+    }
+
     private static void byHand() {
         IsochroneBench bench = told(4, 7);
         CHECK.due("31: 9 of 4 and 7", bench.canMeasure(9), true);
         CHECK.due("32 to 35: 9 of 4 and 7", planOf(bench, 9), "5: 0/3 4/1 7/2 8/2");
         CHECK.due("31: 1 of 4 and 7", bench.canMeasure(1), false);
-        CHECK.due("32 to 35: a decision at which none is turned", planOf(bench, 7), "1: 0/2");
-        CHECK.due("32 to 35: 11, the 7 waits for none", planOf(bench, 11), "2: 0/1 4/2");
+        CHECK.due("32 to 35: the 4 is not turned", planOf(bench, 7), "1: 0/2");
+        CHECK.due("32 to 35: 11 of 4 and 7", planOf(bench, 11), "2: 0/1 4/2");
         CHECK.due("32 to 35: 10 of 4 and 7", planOf(bench, 10), "4: 0/3 4/1 7/1");
         CHECK.due("32 to 35: the last minute", planOf(bench, 40), planBySearch(40, 4, 7));
     }

@@ -85,8 +85,12 @@ public final class SumsTest {
         for (int glass = 0; glass < 2; glass++) {
             for (String[] pair : new String[][] {{"upper", "lower"}, {"lower", "upper"}}) {
                 IsochroneBench below0 = spoilable();
-                add(listed(below0, "glasses", glass), pair[0], -500);
-                add(listed(below0, "glasses", glass), pair[1], 500);
+                int grains = below0.above(glass) + below0.below(glass);
+                set(listed(below0, "glasses", glass), pair[0], 0);
+                set(listed(below0, "glasses", glass), pair[1], grains);
+                CHECK.due("47: " + pair[0] + " at 0 in " + glass, below0.isSound(), true);
+                set(listed(below0, "glasses", glass), pair[0], -1);
+                set(listed(below0, "glasses", glass), pair[1], grains + 1);
                 CHECK.due("47: " + pair[0] + " below 0 in " + glass, below0.isSound(), false);
             }
         }
@@ -139,8 +143,12 @@ public final class SumsTest {
     }
 
     private static void add(Object owner, String field, int more) throws ReflectiveOperationException {
+        set(owner, field, (int) value(owner, field) + more);
+    }
+
+    private static void set(Object owner, String field, int number) throws ReflectiveOperationException {
         java.lang.reflect.Field found = owner.getClass().getDeclaredField(field);
         found.setAccessible(true);
-        found.setInt(owner, found.getInt(owner) + more);
+        found.setInt(owner, number);
     }
 }
